@@ -1,0 +1,123 @@
+import java.util.NoSuchElementException;
+
+/** What the tests share: counting wrong answers, and programs written as texts. */
+final class Checks {
+    private static int wrong = 0;
+
+    interface Call {
+        Object answer();
+    }
+
+    static void due(String what, Object got, Object want) {
+        if (!want.equals(got)) {
+            wrong++;
+            System.out.println(what + " answered " + got + ", due is " + want);
+        }
+    }
+
+    /** The answer as a text, or the plain name of the exception that the document may want. */
+    static String answer(Call call) {
+        try {
+            return String.valueOf(call.answer());
+        } catch (NoSuchElementException | IllegalStateException | IllegalArgumentException
+            | IndexOutOfBoundsException | ArithmeticException e) {
+            return e.getClass().getSimpleName();
+        }
+    }
+
+    static void dueCall(String what, Call call, Object want) {
+        due(what, answer(call), String.valueOf(want));
+    }
+
+    static void end(String name) {
+        System.out.println(name + ": " + (wrong == 0 ? "all answers are as due" : wrong + " answers are not as due"));
+        if (wrong != 0) {
+            System.exit(1);
+        }
+    }
+
+    /** Adds the nodes of a text such as (p (+ (n 1) (g 0))); a number stands for itself, a # for a node. */
+    static int add(Contextwright x, String text) {
+        return new Reader(x, text).node();
+    }
+
+    /** A program with a main node and the bodies of the subs from 0 on, where "" is none. */
+    static Contextwright program(String main, String... subs) {
+        Contextwright x = new Contextwright();
+        for (int i = 0; i < subs.length; i++) {
+            if (!subs[i].isEmpty()) {
+                x.setSub(i, add(x, subs[i]));
+            }
+        }
+        x.setMain(add(x, main));
+        return x;
+    }
+
+    static String prints(Contextwright x) {
+        StringBuilder text = new StringBuilder();
+        for (int i = 0; i < x.printed(); i++) {
+            text.append(i == 0 ? "" : " ").append(x.printedAt(i) == -1000000 ? "-" : "" + x.printedAt(i));
+        }
+        return text.toString();
+    }
+
+    static String elements(Contextwright x) {
+        StringBuilder text = new StringBuilder();
+        for (int i = 0; i < x.elements(); i++) {
+            text.append(i == 0 ? "" : " ").append(x.element(i));
+        }
+        return text.toString();
+    }
+
+    static String ranks(Contextwright x) {
+        StringBuilder text = new StringBuilder();
+        for (int i = 0; i < x.made(); i++) {
+            text.append(i == 0 ? "" : " ").append(x.gone(i));
+        }
+        return text.toString();
+    }
+
+    private static final class Reader {
+        private final Contextwright x;
+        private final String text;
+        private int at;
+
+        Reader(Contextwright x, String text) {
+            this.x = x;
+            this.text = text;
+        }
+
+        private void blanks() {
+            while (at < text.length() && text.charAt(at) == ' ') {
+                at++;
+            }
+        }
+
+        int node() {
+            blanks();
+            if (text.charAt(at) != '(') {
+                return number();
+            }
+            at++;
+            char kind = text.charAt(at);
+            at++;
+            int[] numbers = new int[3];
+            for (int i = 0; ; i++) {
+                blanks();
+                if (text.charAt(at) == ')') {
+                    at++;
+                    return x.addNode(kind, numbers[0], numbers[1], numbers[2]);
+                }
+                numbers[i] = node();
+            }
+        }
+
+        private int number() {
+            int from = at;
+            while (text.charAt(at) != ' ' && text.charAt(at) != ')') {
+                at++;
+            }
+            return Integer.parseInt(text.substring(from, at));
+        }
+    }
+}

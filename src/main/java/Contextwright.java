@@ -935,7 +935,7 @@ public final class Contextwright {
             argumentCounts[now] = argumentCount;
             loops[now] = 0;
             for (int i = 0; i < SLOTS; i++) {
-                slots[now * SLOTS + i] = places.fresh(Value.NOTHING);
+                changeSlot(i, places.fresh(Value.NOTHING));
             }
         }
 
@@ -946,37 +946,47 @@ public final class Contextwright {
             }
         }
 
+        private boolean isOpen() {
+            return now >= 0 && now < MOST_OPEN;
+        }
+
         int want() {
-            return wants[now];
+            return isOpen() ? wants[now] : 0;
         }
 
         int argumentCount() {
-            return argumentCounts[now];
+            return isOpen() ? argumentCounts[now] : 0;
         }
 
         int argument(int index) {
-            return places.handleAt(firstArguments[now] + index);
+            return places.handleAt(isOpen() ? firstArguments[now] + index : 0);
         }
 
         boolean isInLoop() {
-            return loops[now] > 0;
+            return isOpen() && loops[now] > 0;
         }
 
         void beginLoop() {
-            loops[now]++;
+            if (isOpen()) {
+                loops[now]++;
+            }
         }
 
         void endLoop() {
-            loops[now]--;
+            if (isOpen()) {
+                loops[now]--;
+            }
         }
 
         int slot(int index) {
-            return index >= 0 && index < SLOTS ? slots[now * SLOTS + index] : 0;
+            int at = now * SLOTS + index;
+            return at >= 0 && at < slots.length ? slots[at] : 0;
         }
 
         void changeSlot(int index, int handle) {
-            if (index >= 0 && index < SLOTS) {
-                slots[now * SLOTS + index] = handle;
+            int at = now * SLOTS + index;
+            if (at >= 0 && at < slots.length) {
+                slots[at] = handle;
                 places.noteLoosened(true);
             }
         }
@@ -991,19 +1001,18 @@ public final class Contextwright {
 
         void saveSlots() {
             for (int i = 0; i < SLOTS; i++) {
-                saved.add(slots[now * SLOTS + i]);
+                saveSlot(i);
             }
         }
 
         void restoreSlots() {
-            places.noteLoosened(true);
             for (int i = SLOTS - 1; i >= 0; i--) {
-                slots[now * SLOTS + i] = (int) saved.take();
+                changeSlot(i, (int) saved.take());
             }
         }
 
         void holdSlots() {
-            for (int i = 0; i < (now + 1) * SLOTS; i++) {
+            for (int i = 0; i < (now + 1) * SLOTS && i < slots.length; i++) {
                 places.holdPlace(slots[i]);
             }
             for (int i = 0; i < saved.count(); i++) {
@@ -1235,17 +1244,19 @@ public final class Contextwright {
 
         void carryOut(Code which, int allowed, Outcome result) {
             begin(which, allowed, result);
-            for (int turn = 0; turn < MOST_TURNS && depth > 0; turn++) {
+            for (int turn = 0; turn < MOST_TURNS && depth > 0 && depth <= MOST_FRAMES; turn++) {
                 Frame f = frames[depth - 1];
                 if (f == null) {
                     break;
                 }
                 if (isDone) {
                     lookAfterThings();
-                } else if (leaving == STAYING) {
-                    advance(f);
-                } else {
+                } else if (leaving != STAYING) {
                     unwind(f);
+                } else if (isEnding && f.kind == MAIN) {
+                    takeNextThing(f);
+                } else {
+                    advance(f);
                 }
             }
             result.keepThings(things);
@@ -1379,7 +1390,7 @@ public final class Contextwright {
                 case 'o': makeThing(f); break;
                 case 'k': weaken(f); break;
                 case 'p': print(f); break;
-                case MAIN: if (f.state == 2) { takeNextThing(f); } else { carryOutMain(f); } break;
+                case MAIN: carryOutMain(f); break;
                 case DESTRUCTOR: closeDestructor(f); break;
                 default: giveNothing(f); break;
             }
@@ -1745,7 +1756,6 @@ public final class Contextwright {
             loans.giveBackTo(0);
             outcome.keepPlaces(places);
             isEnding = true;
-            f.state = 2;
             f.x = 0;
         }
 
@@ -1903,7 +1913,7 @@ public final class Contextwright {
         }
 
         private void unwindMain(Frame f) {
-            if (f.state < 2) {
+            if (!isEnding) {
                 endMain(f);
                 if (leaving == THROWING) {
                     outcome.keepDeath(thrown);

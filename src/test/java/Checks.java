@@ -38,7 +38,12 @@ final class Checks {
 
     /** Adds the nodes of a text such as (p (+ (n 1) (g 0))); a number stands for itself, a # for a node. */
     static int add(Contextwright x, String text) {
-        return new Reader(x, text).node();
+        Reader reader = new Reader(x, text);
+        int node = reader.node();
+        if (reader.at != text.length()) {
+            throw new IllegalArgumentException("text behind the node: " + text);
+        }
+        return node;
     }
 
     /** A program with a main node and the bodies of the subs from 0 on, where "" is none. */

@@ -363,6 +363,18 @@ public final class ProgramsTest {
             node = x.addNode(',', node, node, 0);
             size = 2 * size + 1;
         }
+        Contextwright zero = new Contextwright();
+        int all = zero.addNode('B', 0, 0, 0);
+        for (int i = 1; i < 32; i++) {
+            all = zero.addNode(',', all, all, 0);
+        }
+        Checks.due("a size of 32 ones", zero.size(all), -1);
+        all = zero.addNode('d', all, 0, 0);
+        Checks.due("a size that goes round to 0", zero.size(all), 0);
+        zero.setMain(all);
+        Checks.dueCall("thinShare of a plain size of 0", () -> zero.thinShare(), "ArithmeticException");
+        zero.setMain(all - 1);
+        Checks.due("thinShare of sizes below 0", zero.thinShare(), 1.0f);
         Checks.due("a size that goes round", x.size(node), size);
         Checks.due("a thinned size that goes round", x.thinnedSize(node), size);
     }

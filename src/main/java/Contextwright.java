@@ -249,6 +249,7 @@ public final class Contextwright {
         static final int THING = 2;
         static final int WEAK_THING = 3;
         static final int PLACE = 4;
+        static final int ARRAY = 5;
         private static final int FIRST_THING = 1000000;
 
         static long of(int tag, int low) {
@@ -800,6 +801,24 @@ public final class Contextwright {
 
         void pushPlace(int handle) {
             underWay.add(Value.of(Value.PLACE, handle));
+        }
+
+        /** Keeps room for the elements of the array, which nobody has got before they are given. */
+        void pushArray() {
+            underWay.add(Value.of(Value.ARRAY, 0));
+        }
+
+        /** Puts what is under way from base on once more on top, with all elements for the array. */
+        void unfold(int base) {
+            int end = underWay.count();
+            for (int i = base; i < end; i++) {
+                long entry = underWay.get(i);
+                if (Value.tag(entry) == Value.ARRAY) {
+                    pushElements();
+                } else {
+                    underWay.add(entry);
+                }
+            }
         }
 
         int handleAt(int index) {
@@ -1538,7 +1557,9 @@ public final class Contextwright {
             }
             fillTarget(f.a, f);
             if (f.want == MANY) {
-                giveFrom(f, f.base + 2 * f.x);
+                int end = places.top();
+                places.unfold(f.base + 2 * f.x);
+                giveFrom(f, end);
             } else {
                 giveValue(f, Value.number(f.x));
             }
@@ -1579,7 +1600,7 @@ public final class Contextwright {
             for (int i = 0; i < MOST_ELEMENTS && owner.y < owner.x; i++) {
                 places.addElement(nextValue(owner));
             }
-            places.pushElements();
+            places.pushArray();
         }
 
         private long nextValue(Frame owner) {

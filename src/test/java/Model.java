@@ -610,7 +610,20 @@ final class Model {
         int count = values.size();
         List<Object> targets = new ArrayList<>();
         fill(n.a, new ArrayList<>(values), targets);
-        return want == MANY ? targets : value(count, want);
+        return want == MANY ? withElements(targets) : value(count, want);
+    }
+
+    /** The places, with all elements of the array, as it is by now, where the array stands. */
+    List<Object> withElements(List<Object> targets) {
+        List<Object> given = new ArrayList<>();
+        for (Object o : targets) {
+            if (o == array) {
+                given.addAll(array);
+            } else {
+                given.add(o);
+            }
+        }
+        return given;
     }
 
     void fill(int node, List<Object> values, List<Object> targets) {
@@ -629,8 +642,7 @@ final class Model {
             while (array.size() < 30 && !values.isEmpty()) {
                 array.add(new Place(values.remove(0)));
             }
-            targets.addAll(array);
-            underWay.addAll(array);
+            targets.add(array);
         } else {
             Place p = many(node).get(0);
             p.put(values.isEmpty() ? null : values.remove(0));

@@ -346,6 +346,10 @@ public final class RunsTest {
         does("e 1 2 3 -", "(p (: (, (x 0) (, (A) (x 1))) (, (n 1) (, (n 2) (n 3)))))");
         does("e 1 2 3 4", "(; (: (, (, (x 0) (g 0)) (, (@ 0) (E (n 0)))) (, (n 1) (, (n 2) (, (n 3) (n 4))))) "
             + "(p (, (x 0) (, (g 0) (, (n 3) (A))))))");
+        // The array gives the elements that it has when the assignment is done.
+        does("e 1 2 - - -", "(p (: (, (A) (E (n 3))) (, (n 1) (n 2))))");
+        does("e 1 2 -", "(p (: (, (A) (x 0)) (, (n 1) (n 2))))");
+        does("e - -", "(p (: (, (A) (E (; (: (A) (0)) (n 0)))) (, (n 1) (n 2))))");
         does("e 0", "(p (+ (n 0) (: (A) (0))))");
         does("e ", "(p (: (A) (0)))");
         does("e 3 2", "(; (: (A) (, (n 1) (, (n 2) (n 3)))) (; (: (A) (, (E (n 2)) (E (n 1)))) (p (A))))");

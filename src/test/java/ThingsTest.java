@@ -7,6 +7,7 @@ public final class ThingsTest {
         goneAtOnce();
         heldByPlaces();
         heldByValuesUnderWay();
+        heldByElementsOfAList();
         ranksOfSeveral();
         comingBack();
         weakPlaces();
@@ -100,6 +101,24 @@ public final class ThingsTest {
         does("e 1000000 1 / 0", "(l (o 0) (; (p (n 1)) (B)))", "(: (g 0) (p (@ 0)))");
         does("e 1000000 / 0", "(! (o 0))", TELL);
         does("e 1 1000000 / 0", "(; (: (x 0) (c 1 -1)) (p (n 1)))", TELL, "(b (r (o 0)))");
+    }
+
+    /** While a list is gone through, its array holds a thing by its elements alone, and other places hold theirs. */
+    private static void heldByElementsOfAList() {
+        String put = "(: (E (n 0)) (o 0))";
+        String drop = "(; PUT (; (: (A) (0)) (; (p (n 5)) (n 0))))".replace("PUT", put);
+        String keep = "(; PUT (; (p (n 5)) (n 0)))".replace("PUT", put);
+        does("e 1000000 5 / 0", "(: (, (A) (E DROP)) (n 0))".replace("DROP", drop), TELL);
+        does("e 1000000 5 - - / 0", "(p (: (, (A) (E DROP)) (n 0)))".replace("DROP", drop), TELL);
+        does("e 1000000 5 / 0", "(: (, (, (x 0) (A)) (E DROP)) (, (n 0) (n 0)))".replace("DROP", drop), TELL);
+        does("e 1000000 5 / 0", "(: (, (, (A) (x 0)) (E DROP)) (n 0))".replace("DROP", drop), TELL);
+        does("e 5 1000000 / 0", "(: (, (A) (E KEEP)) (n 0))".replace("KEEP", keep), TELL);
+        does("e 5 1000000 / 0", "(: (, (E (n 0)) (E DROP)) (n 0))".replace("DROP", drop), TELL);
+        // The value that the array got is under way in the assignment itself.
+        does("e 5 1000000 / 0", "(: (, (A) (E (; (: (A) (0)) (; (p (n 5)) (n 0))))) (o 0))", TELL);
+        // What the assignment gives is held by its elements and by those that are given.
+        does("e 1000000 1000000 1 / 0", "(; (p (: (A) (o 0))) (; (: (A) (0)) (p (n 1))))", TELL);
+        does("e 1000000 1 1000000 / 0", "(f 0 (: (A) (o 0)) (; (: (A) (0)) (; (p (x 0)) (p (n 1)))))", TELL);
     }
 
     private static void ranksOfSeveral() {

@@ -18,6 +18,7 @@ public final class ModelTest {
         int first = args.length > 1 ? Integer.parseInt(args[1]) : 0;
         for (int seed = first; seed < first + programs && wrong < 10; seed++) {
             compare(seed);
+            compareGrown(seed);
         }
         System.out.println("ModelTest: " + programs + " programs; runs ended " + endings + ", died " + deaths
             + ", over " + overs + "; with things " + withThings + "; not consistent " + inconsistent);
@@ -52,6 +53,30 @@ public final class ModelTest {
         compareNodes(seed, x, m);
     }
 
+    private static void compareGrown(int seed) {
+        Random random = new Random(seed);
+        Contextwright x = new Contextwright();
+        Model m = new Model();
+        Grower grower = new Grower(random, (kind, a, b, c) -> addBoth(seed, x, m, kind, new int[] {a, b, c}));
+        grower.number(9);
+        setBoth(seed, x, m, new int[] {grower.destructor(), grower.destructor(), grower.statement(3),
+            random.nextInt(9) == 0 ? -1 : grower.statement(2)}, grower.statement(9));
+        for (int i = 0; i < 4; i++) {
+            run(seed, random, x, m);
+        }
+        due(seed, "isConsistent", x.isConsistent(), isConsistent(m));
+        compareNodes(seed, x, m);
+    }
+
+    private static void setBoth(int seed, Contextwright x, Model m, int[] bodies, int main) {
+        for (int sub = 0; sub < 4; sub++) {
+            due(seed, "setSub", x.setSub(sub, bodies[sub]), m.bodies[sub]);
+            m.bodies[sub] = bodies[sub];
+        }
+        due(seed, "setMain", x.setMain(main), m.main);
+        m.main = main;
+    }
+
     private static void addNode(int seed, Random random, Contextwright x, Model m) {
         int n = m.plain.size();
         char kind = random.nextInt(3) == 0 || n < 4 ? KINDS.charAt(random.nextInt(KINDS.length()))
@@ -67,8 +92,14 @@ public final class ModelTest {
         if (random.nextInt(100) == 0) {
             kind = (char) random.nextInt(128);
         }
+        addBoth(seed, x, m, kind, numbers);
+    }
+
+    /** The number of the node, or 0 if there is none. */
+    private static int addBoth(int seed, Contextwright x, Model m, char kind, int[] numbers) {
         String got;
         String want;
+        int before = m.plain.size();
         try {
             got = "" + x.addNode(kind, numbers[0], numbers[1], numbers[2]);
         } catch (IllegalArgumentException | IndexOutOfBoundsException | IllegalStateException e) {
@@ -80,6 +111,7 @@ public final class ModelTest {
             want = e.getClass().getName();
         }
         due(seed, "addNode " + kind, got, want);
+        return m.plain.size() > before ? before : 0;
     }
 
     private static int number(Random random, Model m, char kind, char role, int index) {
@@ -112,14 +144,11 @@ public final class ModelTest {
 
     private static void set(int seed, Random random, Contextwright x, Model m) {
         int n = m.plain.size();
+        int[] bodies = new int[4];
         for (int sub = 0; sub < 4; sub++) {
-            int body = random.nextInt(6) == 0 ? -1 : n - 1 - random.nextInt(Math.min(n, 20));
-            due(seed, "setSub", x.setSub(sub, body), m.bodies[sub]);
-            m.bodies[sub] = body;
+            bodies[sub] = random.nextInt(6) == 0 ? -1 : n - 1 - random.nextInt(Math.min(n, 20));
         }
-        int main = n - 1 - random.nextInt(Math.min(n, 4));
-        due(seed, "setMain", x.setMain(main), m.main);
-        m.main = main;
+        setBoth(seed, x, m, bodies, n - 1 - random.nextInt(Math.min(n, 4)));
         int variable = random.nextInt(4);
         int start = random.nextInt(5) == 0 ? random.nextInt() : random.nextInt(40) - 5;
         due(seed, "setVariable", x.setVariable(variable, start), m.starts[variable]);

@@ -1,8 +1,15 @@
+import java.io.IOException;
+import java.nio.charset.StandardCharsets;
+import java.nio.file.Files;
+import java.nio.file.Path;
 import java.util.NoSuchElementException;
 
 /** What the tests share: counting wrong answers, and programs written as texts. */
 final class Checks {
+    private static final Path DOCUMENT = Path.of("../shared/DOC.md");
     private static int wrong = 0;
+    private static String sentence = "";
+    private static String document;
 
     interface Call {
         Object answer();
@@ -11,8 +18,27 @@ final class Checks {
     static void due(String what, Object got, Object want) {
         if (!want.equals(got)) {
             wrong++;
-            System.out.println(what + " answered " + got + ", due is " + want);
+            System.out.println((sentence.isEmpty() ? "" : "[" + sentence + "] ")
+                + what + " answered " + got + ", due is " + want);
         }
+    }
+
+    /** Tells which sentence of the document is tested from here on; it has to stand there as it is quoted. */
+    static void sentence(String quoted) {
+        sentence = "";
+        due("whether the document says: " + quoted, document().isEmpty() || document().contains(quoted), true);
+        sentence = quoted;
+    }
+
+    private static String document() {
+        if (document == null) {
+            try {
+                document = Files.exists(DOCUMENT) ? Files.readString(DOCUMENT, StandardCharsets.UTF_8) : "";
+            } catch (IOException e) {
+                document = "";
+            }
+        }
+        return document;
     }
 
     /** The answer as a text, or the plain name of the exception that the document may want. */
@@ -58,17 +84,45 @@ final class Checks {
         return x;
     }
 
+    /** The program of these texts behind a plain run of at most so many steps. */
+    static Contextwright ran(int steps, String main, String... subs) {
+        Contextwright x = program(main, subs);
+        x.run(false, steps);
+        return x;
+    }
+
+    /** How a program ends and what it prints, plain and thinned. */
+    static void does(String want, String main, String... subs) {
+        Contextwright x = program(main, subs);
+        due(main, x.run(false, 2000) + " " + prints(x), want);
+        due("thinned " + main, x.run(true, 2000) + " " + prints(x), want);
+        due("isConsistent of " + main, x.isConsistent(), true);
+    }
+
+    /** That a value is thrown out of the main node, and which. */
+    static void dies(int want, String main, String... subs) {
+        Contextwright x = ran(2000, main, subs);
+        due(main, x.ending() + " " + answer(() -> x.died()), "d " + want);
+    }
+
     static String prints(Contextwright x) {
         StringBuilder text = new StringBuilder();
-        for (int i = 0; i < x.printed(); i++) {
-            text.append(i == 0 ? "" : " ").append(x.printedAt(i) == -1000000 ? "-" : "" + x.printedAt(i));
+        int count = x.printed();
+        for (int i = 0; i < count; i++) {
+            int value = x.printedAt(i);
+            text.append(i == 0 ? "" : " ").append(value == -1000000 ? "-" : "" + value);
         }
         return text.toString();
     }
 
+    static String variables(Contextwright x) {
+        return x.variable(0) + " " + x.variable(1) + " " + x.variable(2) + " " + x.variable(3);
+    }
+
     static String elements(Contextwright x) {
         StringBuilder text = new StringBuilder();
-        for (int i = 0; i < x.elements(); i++) {
+        int count = x.elements();
+        for (int i = 0; i < count; i++) {
             text.append(i == 0 ? "" : " ").append(x.element(i));
         }
         return text.toString();
@@ -76,7 +130,8 @@ final class Checks {
 
     static String ranks(Contextwright x) {
         StringBuilder text = new StringBuilder();
-        for (int i = 0; i < x.made(); i++) {
+        int count = x.made();
+        for (int i = 0; i < count; i++) {
             text.append(i == 0 ? "" : " ").append(x.gone(i));
         }
         return text.toString();

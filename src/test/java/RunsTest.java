@@ -33,25 +33,16 @@ public final class RunsTest {
         Checks.end("RunsTest");
     }
 
-    /** How a program ends and what it prints, plain; it is due that the thinned one does the same. */
     private static void does(String want, String main, String... subs) {
-        Contextwright x = Checks.program(main, subs);
-        Checks.due(main, x.run(false, 2000) + " " + Checks.prints(x), want);
-        Checks.due("thinned " + main, x.run(true, 2000) + " " + Checks.prints(x), want);
-        Checks.due("isConsistent of " + main, x.isConsistent(), true);
+        Checks.does(want, main, subs);
     }
 
     private static void dies(int want, String main, String... subs) {
-        Contextwright x = Checks.program(main, subs);
-        Checks.due(main, x.run(false, 2000), 'd');
-        Checks.due("died of " + main, x.died(), want);
-        Checks.due("ending of " + main, x.ending(), 'd');
+        Checks.dies(want, main, subs);
     }
 
     private static Contextwright ran(int steps, String main, String... subs) {
-        Contextwright x = Checks.program(main, subs);
-        x.run(false, steps);
-        return x;
+        return Checks.ran(steps, main, subs);
     }
 
     // ---- the calls of runs

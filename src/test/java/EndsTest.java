@@ -164,6 +164,8 @@ public final class EndsTest {
         // The place that is found is done ahead of what it gets.
         things("e 0 6 / 0", "(; (: (x 0) (o 0)) (; (: (, (x 0) (g 0)) (, (n 5) (n 6))) (p (g 0))))", "(p (g 0))");
         things("e 5 6 / 0", "(; (: (g 0) (o 0)) (; (: (, (g 0) (g 1)) (, (n 5) (n 6))) (p (g 1))))", "(p (g 0))");
+        things("e 1000000 5 / 0", "(; (: (A) (o 0)) (: (, (A) (E (; (p (n 5)) (n 0)))) (n 0)))", TELL);
+        things("e 1000000 5 / 0", "(; (: (A) (o 0)) (; (: (A) (0)) (p (n 5))))", TELL);
     }
 
     private static void lowestFirst() {
@@ -173,6 +175,8 @@ public final class EndsTest {
         things("e 1000001 1000000 1000002 1 / 1 0 2", three + "(; (: (E (n 1)) (0)) (; (: (A) (0)) (p (n 1)))))", TELL);
         things("e 1000001 1000000 1000002 / 1 0 2",
             "(; (: (g 0) (o 0)) (; (: (A) (, (o 1) (o 0))) (: (A) (0))))", TELL, "(; (p (@ 0)) (: (g 0) (0)))");
+        // The thing 1 was held again by its destructor, and is let go of together with the thing 0.
+        things("e  / 0 1", "(; (: (A) (, (o -1) (o 0))) (; (: (E (n 1)) (0)) (; (: (E (n 1)) (g 0)) (; (: (g 0) (0)) (: (A) (0))))))", "(: (g 0) (@ 0))");
         Contextwright x = Checks.ran(2000, "(l (n 1) (o -1))");
         Checks.due("very many things", x.ending() + " " + x.made() + " " + x.destroyed() + " " + x.gone(0) + " " + x.gone(998), "l 999 0 0 998");
         x = Checks.ran(2000, "(; (: (A) (, (o -1) (, (o -1) (o -1)))) (; (: (A) (, (A) (, (A) (, (A) (, (o -1) (, (o -1) (o -1))))))) (: (A) (0))))");
@@ -190,6 +194,12 @@ public final class EndsTest {
         Checks.due("it runs once, also behind the main node", Checks.prints(x) + " " + x.destroyed() + " " + x.gone(0), "8 1 1 0");
         x = Checks.ran(99, "(; (o -1) (o 2))");
         Checks.due("none, and a sub without a body", x.destroyed() + " " + Checks.ranks(x), "1 0 1");
+        x = Checks.ran(7, "(; (: (x 0) (o 3)) (; (k (x 0)) (n 1)))");
+        Checks.due("gone at once without a body", x.ending() + " " + x.destroyed() + x.gone(0), "l 10");
+        x = Checks.ran(7, "(; (: (x 0) (o -1)) (; (k (x 0)) (n 1)))");
+        Checks.due("gone at once without a destructor", x.ending() + " " + x.destroyed() + x.gone(0), "l 00");
+        things("e 0 / 0 1", "(; (: (A) (, (o 3) (o 0))) (; (: (A) (0)) (L 0 -1)))", "(p (g 0))");
+        things("e 0 / 0", "(; (o 0) (n 1))", "(c 1 -1)", "(p (w))");
     }
 
     private static void destructorsThatFail() {

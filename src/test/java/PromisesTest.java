@@ -406,7 +406,20 @@ public final class PromisesTest {
         Checks.due("with it", x.isConsistent(), false);
     }
 
+    private static void againAndAgain() {
+        Checks.sentence("Returns true if the invariants hold.");
+        Contextwright x = Checks.program(SEEN.replace("WHAT", "(d (+ (g 0) (n 0)))"), SET_ZERO);
+        int fine = Checks.add(x, "(p (n 1))");
+        for (int i = 0; i < 3; i++) {
+            int seen = x.setMain(fine);
+            Checks.due("isConsistent of a fine one", x.isConsistent(), true);
+            x.setMain(seen);
+            Checks.due("isConsistent of one that is seen", x.isConsistent(), false);
+        }
+    }
+
     private static void noRunByItself() {
+        againAndAgain();
         Checks.sentence("which is no run by itself");
         Contextwright x = Checks.program("(? (g 0) (; (L 0 (n 1)) (; (: (E (n 1)) (o 0)) (d (n 7)))) (p (n 4)))", "(p (n 5))");
         x.run(false, 99);
@@ -437,6 +450,8 @@ public final class PromisesTest {
         for (int variable = 1; variable < 4; variable++) {
             dueSeen(false, "(: (g " + variable + ") " + five + ")");
         }
+        Contextwright x = Checks.program(SEEN.replace("WHAT", "(: (g 0) (+ (g 1) (n 0)))"), "(: (g 1) (n 5))");
+        Checks.due("isConsistent with another variable 0", x.isConsistent(), false);
         dueSeen(false, "(: (E (n 0)) " + five + ")");
         dueSeen(false, "(: (E (n 29)) " + five + ")");
         dueSeen(false, "(c 1 (E " + five + "))");

@@ -8,6 +8,7 @@ public final class TermsTest {
 
     public static void main(String[] args) {
         values();
+        nothingForOne();
         programs();
         names();
         asking();
@@ -86,6 +87,17 @@ public final class TermsTest {
         }
     }
 
+    /** Whatever gives nothing gives it in its own place: what is given next is not taken for it. */
+    private static void nothingForOne() {
+        Checks.sentence("As a number, nothing is 0");
+        String[] nothings = {"(0)", "(x 0)", "(@ 0)", "(E (n 0))", "(c 0 -1)", "(c 1 (n 4))", "(c 2 -1)", "(c 3 -1)", "(b (0))",
+            "(v (0))", "(v (d (n 4)))", "(v (+ (n 3) (d (n 4))))", "(f 0 (n 4) (n 4))", "(f 0 (0) (n 4))", "(f 0 (n 4) (B))", "(l (n 0) (n 4))",
+            "(l (n 1) (B))", "(m 0 -1)", "(L 0 -1)", "(: (x 0) (0))", "(k (x 0))", "(? (n 1) (0) (n 4))", "(, (n 4) (0))", "(; (n 4) (0))"};
+        for (String nothing : nothings) {
+            does("e -5 5", "(; (p (- WHAT (n 5))) (p (- (n 5) WHAT)))".replace("WHAT", nothing), "", "(r -1)", "(+ (n 4) (r -1))", "(r (0))");
+        }
+    }
+
     // ---- programs
 
     /** A program of 48 nodes, each of which but the first has the one ahead of it as its part. */
@@ -111,6 +123,16 @@ public final class TermsTest {
         Checks.due("48 nodes in seven", x.run(false, 2000) + " " + x.steps() + " " + x.died(), "d 336 901");
         x.setSub(0, -1);
         Checks.due("48 nodes once", x.run(false, 2000) + " " + x.steps(), "e 48");
+        x = new Contextwright();
+        x.addNode('c', 0, -1, 0);
+        x.addNode('v', 0, 0, 0);
+        for (int i = 2; i < 47; i++) {
+            x.addNode('!', i - 1, 0, 0);
+        }
+        x.setMain(x.addNode('p', 46, 0, 0));
+        x.setSub(0, 47);
+        x.run(false, 2000);
+        Checks.due("48 nodes in seven, each of which goes on", x.ending() + " " + x.steps() + " " + Checks.prints(x), "e 336 1 0 0 0 0 0 0");
         x = deep('o', 1, 0);
         x.setSub(1, 47);
         Checks.due("destructors that make things", x.run(false, 500) + " " + x.steps() + " " + x.made() + " " + x.destroyed(), "l 500 10 10");
@@ -161,12 +183,34 @@ public final class TermsTest {
     // ---- asking
 
     private static void asking() {
+        partsNumberedZero();
         Checks.sentence("Asked for many, it gives places, as many as it likes; those that are told to be fresh hold the value and belong to nobody else.");
         does("e 8 1", "(c 0 (, (n 1) (n 1)))", "(; (: (@ 0) (n 8)) (p (, (@ 0) (@ 1))))");
         does("e 4 4", "(; (f 0 (, (n 3) (n 3)) (: (x 0) (+ (x 0) (n 1)))) (f 0 (, (n 3) (n 3)) (p (: (x 0) (+ (x 0) (n 1))))))");
         Checks.sentence("Asked for none, it is carried out just as if asked for one, but gives nothing, unless something else is told.");
         does("e 3 4", "(; (p (n 3)) (; (! (p (n 4))) (+ (n 1) (n 2))))");
         elementsBehind("", "(; (E (n 29)) (A))");
+    }
+
+    /** The node 0 is a part like any other: only -1 is none. */
+    private static void partsNumberedZero() {
+        Checks.sentence("There are at most 48 nodes, numbered from 0");
+        for (char kind : "mLcr".toCharArray()) {
+            Contextwright x = new Contextwright();
+            Checks.due("the number 5", x.addNode('n', 5, 0, 0), 0);
+            x.setSub(0, x.addNode('@', 0, 0, 0));
+            x.setSub(1, kind == 'r' ? x.addNode('r', 0, 0, 0) : -1);
+            int told = kind == 'r' ? x.addNode('c', 1, -1, 0) : x.addNode(kind, 0, 0, 0);
+            x.setMain(x.addNode('p', x.addNode('-', told, 0, 0), 0, 0));
+            x.run(false, 99);
+            Checks.due("the part 0 of " + kind, x.ending() + " " + Checks.prints(x), "e 0");
+        }
+        Contextwright x = new Contextwright();
+        x.setMain(x.addNode('B', 0, 0, 0));
+        Checks.due("the main node 0", x.run(false, 1) + " " + x.thinShare() + " " + x.isConsistent(), "d 1.0 true");
+        x.setSub(3, 0);
+        x.setMain(x.addNode('c', 3, -1, 0));
+        Checks.due("the body 0", x.run(false, 2) + " " + x.died(), "d 902");
     }
 
     private static void leaves() {
@@ -222,6 +266,8 @@ public final class TermsTest {
         Checks.due("no element comes into being for 900", Checks.ran(99, "(p (E (n 30)))").elements(), 0);
         Checks.sentence("What the element of the array with this index holds, or nothing if there is none");
         does("e 1 0 1", "(; (p (! (E (n 0)))) (; (: (A) (, (n 4) (n 5))) (p (, (! (E (n 1))) (! (E (n 2)))))))");
+        does("e 0 4", "(; (: (g 0) (n 7)) (; (: (A) (n 4)) (p (, (+ (E (n 1)) (n 0)) (+ (E (n 0)) (n 0))))))");
+        does("e 0", "(; (: (g 0) (n 7)) (p (+ (E (n 0)) (n 0))))");
         elementsBehind("", "(; (! (E (n 29))) (+ (E (n 0)) (n 1)))");
         Checks.sentence("asked for many, this place itself, and if there is none, elements with nothing come into being up to it");
         Checks.due("up to the last one", Checks.ran(99, "(p (E (n 29)))").elements(), 30);
@@ -346,22 +392,29 @@ public final class TermsTest {
         does("e 9", "(; (: (x 5) (n 9)) (; (f 5 (, (n 1) (n 2)) (m 5 (n 3))) (p (x 5))))");
         does("e 9", "(; (: (x 0) (n 9)) (; (f 0 (, (n 1) (n 2)) (B)) (p (x 0))))");
         does("e 9", "(; (: (x 0) (n 9)) (; (v (f 0 (, (n 1) (n 2)) (d (n 1)))) (p (x 0))))");
+        does("e 9", "(; (: (x 0) (n 9)) (; (v (f 0 (d (n 1)) (A))) (p (x 0))))");
+        does("e 9", "(; (: (x 0) (n 9)) (; (f 0 (v (f 1 (d (n 1)) (A))) (A)) (p (x 0))))");
         does("e 8", "(; (f 0 (x 1) (; (: (x 0) (n 8)) (m 0 (n 3)))) (p (x 1)))");
         steps(2, "(f 0 (0) (p (n 1)))");
         Contextwright x = Checks.ran(2000, "(; " + FILL + " (f 0 (A) (: (g 0) (+ (g 0) (n 1)))))");
         Checks.due("thirty places", x.variable(0), 30);
+        does("e 0", "(; (: (g 0) (n 7)) (; (f 0 (n 1) (c 0 -1)) (p (g 0))))", "(: (g 0) (w))");
         Checks.sentence("It gives nothing; no place.");
         does("e 1", "(; (p (f 0 (n 1) (n 2))) (p (! (f 0 (n 1) (n 2)))))");
         Checks.sentence("as long as a, asked for one, is true, b is asked for none");
         steps(2, "(l (0) (p (n 1)))");
         steps(2, "(l (n 0) (p (n 1)))");
         does("e 0 1 2", "(l (< (g 0) (n 3)) (; (p (g 0)) (: (g 0) (+ (g 0) (n 1)))))");
+        does("e 0 1", "(; (l (< (g 0) (n 1)) (c 0 -1)) (; (l (c 1 -1) (n 1)) (p (g 1))))", "(; (p (w)) (: (g 0) (n 1)))",
+            "(; (: (g 1) (w)) (n 0))");
         does("e 1", "(; (p (l (n 0) (n 2))) (p (! (l (x 0) (n 2)))))");
     }
 
     private static void calls() {
         Checks.sentence("the part b, if it is not -1, is asked for many, which gives the arguments");
         does("e 0 0 2", "(; (p (c 0 -1)) (; (p (c 0 (0))) (p (c 0 (, (n 1) (n 2))))))", "(N)");
+        does("e 4 1", "(c 0 (n 4))", "(; (v (c 1 (d (n 1)))) (p (, (@ 0) (N))))");
+        does("e 4 1", "(c 0 (n 4))", "(; (f 0 (n 1) (c 1 (B))) (p (, (@ 0) (N))))", "(p (n 7))");
         Checks.sentence("if 6 subs are being carried out then, the value 901 is thrown");
         String down = "(; (: (g 0) (+ (g 0) (n 1))) (? (< (g 0) (g 1)) (c 0 -1) (p (g 0))))";
         for (int depth = 5; depth <= 7; depth++) {
@@ -385,6 +438,7 @@ public final class TermsTest {
         does("e 0 1", "(; (p (c 0 -1)) (; (p (c 1 (c 0 -1))) (; (c 0 -1) (p (! (c 0 -1))))))", "(; (r -1) (p (n 7)))", "(N)");
         does("e 1 2", "(p (c 0 -1))", "(+ (n 1) (r (, (n 1) (n 2))))");
         does("e ", "(p (c 0 -1))", "(, (n 5) (r (0)))");
+        does("e 5 6 0", "(; (p (c 0 -1)) (p (g 0)))", "(b (; (L 0 (n 5)) (v (; (: (x 0) (n 6)) (r (, (g 0) (x 0)))))))");
         does("e 0", "(; (c 0 -1) (p (g 0)))", "(r (, (n 1) (; (: (g 0) (w)) (n 3))))");
         Checks.sentence("in the main node, which is asked for none, this ends");
         does("e 3", "(; (p (n 3)) (; (r -1) (p (n 4))))");
@@ -392,6 +446,11 @@ public final class TermsTest {
         Checks.sentence("if there is none, the value 902 is thrown");
         dies(902, "(B)");
         dies(902, "(; (f 0 (n 1) (n 1)) (; (l (n 0) (n 1)) (B)))");
+        dies(902, "(; (l (< (g 0) (n 2)) (: (g 0) (+ (g 0) (n 1)))) (B))");
+        dies(902, "(; (f 0 (, (n 1) (n 2)) (n 1)) (B))");
+        dies(902, "(; (; (l (n 1) (B)) (f 0 (n 1) (B))) (B))");
+        dies(902, "(; (v (l (n 1) (d (n 1)))) (; (v (f 0 (n 1) (d (n 1)))) (B)))");
+        dies(902, "(; (c 0 -1) (c 1 -1))", "(l (n 1) (f 0 (n 1) (r -1)))", "(B)");
         dies(902, "(f 0 (n 1) (c 0 -1))", "(B)");
         dies(902, "(l (n 1) (c 0 -1))", "(b (r (B)))");
         does("e 902", "(; (v (B)) (p (g 3)))");
@@ -417,6 +476,7 @@ public final class TermsTest {
         does("e - -", "(p (, (k (x 0)) (k (@ 3))))");
         elementsBehind("0 0 0", "(k (E (n 2)))");
         does("e 1000000 -", "(; (: (x 0) (o -1)) (; (p (k (x 0))) (p (x 0))))");
+        does("e - 1000001", "(c 0 (, (o -1) (o -1)))", "(; (k (@ 0)) (p (, (@ 0) (@ 1))))");
         does("e -", "(; (: (x 0) (o -1)) (; (k (x 0)) (; (k (x 0)) (p (x 0)))))");
         Checks.sentence("a number, or 1000000 plus the number of a thing, or -1000000 for nothing; the node gives the number of places");
         does("e -5 1000000 - 3", "(p (+ (n 0) (p (, (n -5) (, (o -1) (x 0))))))");

@@ -15,6 +15,7 @@ public final class PromisesTest {
         numbersOfNodes();
         bodiesBefore();
         numbersBefore();
+        thinnedKinds();
         sizes();
         sizesThatGoRound();
         stepsThatAreAllowed();
@@ -26,6 +27,7 @@ public final class PromisesTest {
         elementsBehind();
         loans();
         thingsOfRuns();
+        once();
         ranks();
         allSteps();
         shares();
@@ -64,6 +66,14 @@ public final class PromisesTest {
         Contextwright x = new Contextwright();
         x.addNode('n', 1, 0, 0);
         x.addNode('n', 2, 0, 0);
+        Checks.sentence("the sub, 0 to 3");
+        Checks.dueCall("behind the last", () -> x.setSub(4, 0), "IndexOutOfBoundsException");
+        Checks.dueCall("ahead of the first", () -> x.setSub(-1, 0), "IndexOutOfBoundsException");
+        Checks.sentence("the node, or -1");
+        Checks.dueCall("no such body", () -> x.setSub(0, 2), "IndexOutOfBoundsException");
+        Checks.dueCall("less than none", () -> x.setSub(0, -2), "IndexOutOfBoundsException");
+        Checks.dueCall("no such main node", () -> x.setMain(2), "IndexOutOfBoundsException");
+        Checks.dueCall("less than no main node", () -> x.setMain(-2), "IndexOutOfBoundsException");
         Checks.sentence("Returns the body before, or -1.");
         for (int sub = 0; sub < 4; sub++) {
             Checks.due("at first", x.setSub(sub, 0), -1);
@@ -83,6 +93,9 @@ public final class PromisesTest {
 
     private static void numbersBefore() {
         Contextwright x = new Contextwright();
+        Checks.sentence("the package variable, 0 to 3");
+        Checks.dueCall("behind the last", () -> x.setVariable(4, 1), "IndexOutOfBoundsException");
+        Checks.dueCall("ahead of the first", () -> x.setVariable(-1, 1), "IndexOutOfBoundsException");
         Checks.sentence("Sets the number that a package variable has ahead of a run, 0 at first.");
         for (int variable = 0; variable < 4; variable++) {
             Checks.due("at first", x.setVariable(variable, MIN + variable), 0);
@@ -94,6 +107,24 @@ public final class PromisesTest {
         for (int variable = 0; variable < 4; variable++) {
             Checks.due("the greatest", x.setVariable(variable, 0), MAX - variable);
         }
+    }
+
+    private static void thinnedKinds() {
+        Checks.sentence("Returns the kind that a node has in the thinned program.");
+        Contextwright x = new Contextwright();
+        x.addNode('w', 0, 0, 0);
+        x.addNode('n', 4, 0, 0);
+        for (int i = 2; i < 47; i++) {
+            x.addNode(i % 2 == 0 ? ';' : 'b', i % 2 == 0 ? 0 : 1, i % 2 == 0 ? i - 1 : 0, 0);
+        }
+        x.addNode('b', 0, 0, 0);
+        Checks.due("the first", x.thinnedKind(0), 'w');
+        for (int i = 1; i < 47; i++) {
+            Checks.due("node " + i, x.thinnedKind(i) + " " + x.thinnedSize(i), "n 1");
+        }
+        Checks.due("the last", x.thinnedKind(47) + " " + x.thinnedSize(47), "b 2");
+        Checks.dueCall("behind the last", () -> x.thinnedKind(48), "IndexOutOfBoundsException");
+        Checks.dueCall("ahead of the first", () -> x.thinnedKind(-1), "IndexOutOfBoundsException");
     }
 
     // ---- sizes
@@ -180,6 +211,8 @@ public final class PromisesTest {
     }
 
     private static void endings() {
+        Checks.sentence("Runs the main node, asked for none.");
+        Checks.due("asked for none", Checks.ran(9, "(c 0 -1)", "(: (g 0) (- (w) (n 1)))").variable(0), -1);
         Checks.sentence("Returns 'e' if it has ended, 'd' if a value was thrown out of it");
         Contextwright x = Checks.program("(? (g 0) (d (g 0)) (p (g 0)))");
         Checks.due("ended", x.run(false, 3) + " " + x.ending(), "l l");
@@ -313,6 +346,18 @@ public final class PromisesTest {
         Checks.due("begun and over in it", x.run(false, 3) + " " + x.made() + " " + x.destroyed(), "l 1 1");
         Checks.due("none made", x.run(false, 1) + " " + x.made() + " " + x.destroyed(), "l 0 0");
         Checks.due("made behind a destructor", x.run(false, 6) + " " + x.made() + " " + x.destroyed(), "l 2 2");
+    }
+
+    private static void once() {
+        Checks.sentence("The thinned program prints what the plain one does; each lent value is given back once; each destructor runs once.");
+        Contextwright x = Checks.program("(; (v (b (; (L 0 (+ (n 1) (n 2))) (; (: (g 1) (o 0)) (; (; (b (w)) (p (g 0))) (d (o 0))))))) (; (n 1) (p (g 3))))",
+            "(; (L 1 (g 0)) (; (p (g 1)) (: (g 2) (@ 0))))");
+        for (boolean isThinned : new boolean[] {false, true}) {
+            Checks.due("ending", x.run(isThinned, 99), 'e');
+            Checks.due("prints", Checks.prints(x), "3 1000001 0 0");
+            Checks.due("given back once", x.lent() + " " + x.givenBack(), "3 3");
+            Checks.due("destructors run once", x.made() + " " + x.destroyed(), "2 2");
+        }
     }
 
     private static void ranks() {
@@ -455,6 +500,10 @@ public final class PromisesTest {
         dueSeen(false, "(: (E (n 0)) " + five + ")");
         dueSeen(false, "(: (E (n 29)) " + five + ")");
         dueSeen(false, "(c 1 (E " + five + "))");
+        // What the variable 0 held is let go of ahead of the index, which is asked behind a number in the plain program.
+        Contextwright y = Checks.program("(; (: (g 0) (o 0)) (: (, (g 0) (E (; (n 1) (g 1)))) (, (n 5) (n 6))))", "(: (g 1) (n 3))");
+        Checks.due("elements", y.run(false, 99) + " " + y.elements() + " " + y.run(true, 99) + " " + y.elements(), "e 4 e 1");
+        Checks.due("isConsistent with an index that differs", y.isConsistent(), false);
         dueSeen(true, "(: (x 0) " + five + ")");
         dueSeen(true, "(? " + five + " (A) (B))");
     }

@@ -21,6 +21,7 @@ public final class RefusedCallsTest {
     }
 
     public static void main(String[] args) {
+        manyRefusedCalls();
         noSuchKind();
         numbersOutOfRange();
         numbersThatAreNotTold();
@@ -140,6 +141,27 @@ public final class RefusedCallsTest {
         Contextwright x = notRun();
         Checks.dueCall("addNode " + kind + " " + a + " " + b + " " + c, () -> x.addNode(kind, a, b, c), 14);
         Checks.due("nodes behind it", x.nodes(), 15);
+    }
+
+    /** All kinds of refused calls on one object, which is as it was behind all of them. */
+    private static void manyRefusedCalls() {
+        Checks.sentence("A method that throws an exception changes nothing.");
+        Refused[] programs = {x -> x.addNode('z', 0, 0, 0), x -> x.addNode('n', 1000, 0, 0), x -> x.addNode('p', 48, 0, 0),
+            x -> x.addNode(':', 0, 0, 0), x -> x.addNode('k', 4, 0, 0), x -> x.setSub(4, 0), x -> x.setSub(0, 48), x -> x.setMain(48),
+            x -> x.setMain(-2), x -> x.setVariable(4, 9), x -> x.thinnedKind(48), x -> x.thinnedSize(-1), x -> x.size(48)};
+        Refused[] runs = {x -> x.run(false, 0), x -> x.run(true, 2001), x -> x.printedAt(99), x -> x.variable(4), x -> x.element(30),
+            x -> x.gone(99), x -> x.died()};
+        Maker[] makers = {RefusedCallsTest::anew, RefusedCallsTest::notRun, RefusedCallsTest::hasRun, RefusedCallsTest::full,
+            RefusedCallsTest::withoutMainNode};
+        for (Maker maker : makers) {
+            Contextwright x = maker.make();
+            for (Refused[] calls : new Refused[][] {programs, runs, programs}) {
+                for (Refused refused : calls) {
+                    Checks.due("whether it is refused", Checks.answer(() -> refused.call(x)).endsWith("Exception"), true);
+                }
+            }
+            Checks.due("all answers behind many refused calls", everything(x), everything(maker.make()));
+        }
     }
 
     // ---- addNode

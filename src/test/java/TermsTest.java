@@ -187,6 +187,20 @@ public final class TermsTest {
         Checks.sentence("Asked for many, it gives places, as many as it likes; those that are told to be fresh hold the value and belong to nobody else.");
         does("e 8 1", "(c 0 (, (n 1) (n 1)))", "(; (: (@ 0) (n 8)) (p (, (@ 0) (@ 1))))");
         does("e 4 4", "(; (f 0 (, (n 3) (n 3)) (: (x 0) (+ (x 0) (n 1)))) (f 0 (, (n 3) (n 3)) (p (: (x 0) (+ (x 0) (n 1))))))");
+        Checks.sentence("If only the value is told below, a node gives this, if asked for one, or a fresh place with it, if asked for many.");
+        String[] values = {"(n 6)", "(+ (n 2) (n 4))", "(- (n 8) (n 2))", "(* (n 2) (n 3))", "(p (p (0)))", "(q (n 1) (n 1))", "(< (n 1) (n 2))",
+            "(! (0))", "(N)", "(w)", "(k (x 0))"};
+        String[] given = {"6", "6", "6", "6", "0 1", "1", "1", "1", "0", "0", "-"};
+        for (int i = 0; i < values.length; i++) {
+            does("e " + given[i], "(p " + values[i] + ")");
+            does(i == 4 ? "e 0 8" : "e 8", "(c 0 " + values[i] + ")", "(; " + SET_FIRST_ARGUMENT + " (p (@ 0)))");
+            Checks.due("elements behind " + values[i], Checks.ran(99, "(: (E (n 0)) " + values[i] + ")").elements(), 1);
+        }
+        Checks.sentence("\"For none, one, many\" means that a part is asked as the node itself is.");
+        for (String around : new String[] {"(? (n 1) WHAT (0))", "(? (0) (0) WHAT)", "(; (0) WHAT)", "(b WHAT)", "(v WHAT)", "(c 1 -1)"}) {
+            String main = "(; (p AROUND) (; (p (+ (n 0) AROUND)) (; AROUND (p (g 0)))))".replace("AROUND", around.replace("WHAT", "(c 0 -1)"));
+            does("e 2 1 0", main, "(: (g 0) (w))", "(c 0 -1)");
+        }
         Checks.sentence("Asked for none, it is carried out just as if asked for one, but gives nothing, unless something else is told.");
         does("e 3 4", "(; (p (n 3)) (; (! (p (n 4))) (+ (n 1) (n 2))))");
         elementsBehind("", "(; (E (n 29)) (A))");
@@ -253,7 +267,7 @@ public final class TermsTest {
     }
 
     private static void elements() {
-        Checks.sentence("if it is not from 0 to 29, the value 900 is thrown");
+        Checks.sentence("'E' a: the part a is asked for one, which as a number is an index; if it is not from 0 to 29, the value 900 is thrown");
         for (int index : new int[] {-1, 30, 31, -999, 999, 1000000, MIN, MAX}) {
             dueIndex(index, "d900");
         }
@@ -279,6 +293,9 @@ public final class TermsTest {
     }
 
     private static void sums() {
+        Checks.sentence("'+' '-' '*' a b: both parts asked for one, the first one first, and reckoned with as numbers.");
+        does("e 0 -5", "(; (p (- (: (g 0) (n 5)) (g 0))) (p (- (g 1) (: (g 1) (n 5)))))");
+        does("e 5 0 6", "(p (, (+ (n 0) (, (n 4) (n 5))) (, (* (0) (n 5)) (+ (0) (, (0) (n 6))))))");
         Checks.sentence("the number 1 if the first one is less as a number, or else 0");
         does("e 1 0 0", "(p (, (< (n 1) (n 2)) (, (< (n 2) (n 2)) (< (n 2) (n 1)))))");
         Checks.sentence("1 if both are equal as numbers, or else 0");
@@ -460,6 +477,10 @@ public final class TermsTest {
         does("e 1 2", "(; (l (n 1) (; (f 0 (, (n 1) (n 2)) (; (p (n 1)) (B))) (B))) (p (n 2)))");
         Checks.sentence("the part a is asked for one, and its value is thrown");
         does("e - 1000000", "(; (v (d (0))) (; (p (g 3)) (; (v (d (o -1))) (p (g 3)))))");
+        Checks.sentence("'v' a: a try: a is asked for none, one, many, and its values are given as by a block; the try ends then.");
+        does("e ", "(p (v (0)))");
+        does("e 3 4 4", "(; (p (v (, (n 3) (n 4)))) (p (+ (v (, (n 3) (n 4))) (n 0))))");
+        does("e 4 0 -", "(; (p (v (L 0 (n 4)))) (; (p (g 0)) (; (c 0 (v (x 0))) (p (x 0)))))", SET_FIRST_ARGUMENT);
         Checks.sentence("If a value is thrown in it, that ends the try, and behind that end, also if it was lent in it, the package variable 3 holds the value, and the node gives nothing; no place.");
         does("e 6", "(; (v (; (L 3 (n 4)) (d (n 6)))) (p (g 3)))");
         does("e 1 6", "(; (p (v (, (n 1) (d (n 6))))) (p (, (! (v (d (n 6)))) (g 3))))");

@@ -123,6 +123,9 @@ public final class EndsTest {
         things("e 1 1000000 3 2 / 0", "(; (c 1 (o 0)) (p (n 2)))", TELL, "(; (p (n 1)) (; (: (@ 0) (0)) (p (n 3))))");
         things("e 1 1 1 1000000 1000001 2 / 0 1", "(; (f 0 (, (o 0) (, (n 0) (o 0))) (p (n 1))) (p (n 2)))", TELL);
         things("e 1 1000000 3 2 / 0", "(; (f 0 (o 0) (; (p (n 1)) (; (: (x 0) (0)) (p (n 3))))) (p (n 2)))", TELL);
+        // A place that the slot was made in between is let go of as soon as the loop goes on, or ends.
+        things("e 1 1000000 2 1000001 3 / 0 1", "(; (f 0 (, (n 1) (n 2)) (; (p (x 0)) (m 0 (o 0)))) (p (n 3)))", TELL);
+        things("e 1 2 1000000 3 / 0", "(; (f 0 (, (n 1) (n 2)) (; (p (x 0)) (? (q (x 0) (n 2)) (b (m 0 (: (x 0) (o 0)))) (0)))) (p (n 3)))", TELL);
         Checks.sentence("by what a lent package variable held before");
         things("e 1 2 1000000 3 / 0", "(; (: (g 3) (o 0)) (; (b (; (L 3 -1) (p (n 1)))) (; (p (n 2)) (; (: (g 3) (0)) (p (n 3))))))", TELL);
         things("e 1 1000000 2 / 0", "(; (b (; (L 0 (o 0)) (; (b (L 0 (n 1))) (p (n 1))))) (p (n 2)))", TELL);
@@ -243,6 +246,10 @@ public final class EndsTest {
         things("e 5 6 / 0 1", "(: (, (g 0) (g 1)) (, (o 0) (o 1)))", "(; (: (g 1) (0)) (p (n 5)))", "(p (n 6))");
         things("e 6 1000000 - / 0 1", "(; (: (, (g 0) (g 1)) (, (o 0) (o 1))) (; (: (g 2) (g 0)) (k (g 2))))",
             "(p (n 6))", "(p (, (g 0) (g 2)))");
+        // What is lent in the main node is given back when all its nodes are done: no thing comes out of its turn by that.
+        things("e 1000000 1000001 / 0 1", "(; (: (g 0) (o 0)) (L 1 (o 0)))", TELL);
+        things("e 1000000 1000001 / 0 1", "(; (: (x 0) (o 0)) (L 1 (o 0)))", TELL);
+        things("e 1000001 1000000 / 1 0", "(; (: (g 0) (o 0)) (b (L 1 (o 0))))", TELL);
         things("d 1000000 / 0", "(; (: (x 0) (o 0)) (d (n 4)))", TELL);
         things("e 1000000 / 0", "(; (: (x 0) (o 0)) (r -1))", TELL);
         things("e 1000000 8 / 0", "(; (: (g 1) (n 8)) (; (L 1 (n 3)) (: (g 0) (o 0))))", "(; (p (@ 0)) (p (g 1)))");

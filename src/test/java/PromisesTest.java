@@ -504,6 +504,11 @@ public final class PromisesTest {
         Contextwright y = Checks.program("(; (: (g 0) (o 0)) (: (, (g 0) (E (; (n 1) (g 1)))) (, (n 5) (n 6))))", "(: (g 1) (n 3))");
         Checks.due("elements", y.run(false, 99) + " " + y.elements() + " " + y.run(true, 99) + " " + y.elements(), "e 4 e 1");
         Checks.due("isConsistent with an index that differs", y.isConsistent(), false);
+        // What the slot of a loop was made is let go of when the loop goes on.
+        y = Checks.program("(f 0 (, (n 1) (n 2)) (; (n 1) (; (p (+ (g 0) (n 0))) (m 0 (o 0)))))", SET_ZERO);
+        Checks.due("plain loop", y.run(false, 99) + " " + Checks.prints(y), "e 0 5");
+        Checks.due("thinned loop", y.run(true, 99) + " " + Checks.prints(y), "e 0 0");
+        Checks.due("isConsistent with a loop that goes on", y.isConsistent(), false);
         dueSeen(true, "(: (x 0) " + five + ")");
         dueSeen(true, "(? " + five + " (A) (B))");
     }

@@ -410,6 +410,11 @@ public final class RunsTest {
         does("e 7", "(; (l (B) (n 1)) (p (n 7)))");
         does("e 5", "(; (f 0 (x 1) (; (m 0 (n 3)) (: (x 1) (n 5)))) (p (x 1)))");
         does("e 7 7", "(; (f 0 (, (x 1) (x 2)) (c 0 (x 0))) (p (, (x 1) (x 2))))", "(: (@ 0) (n 7))");
+        // The slot is again what it was when the loop began, behind the part b, in which no loop of this f is carried out.
+        does("e 3 3", "(; (: (x 0) (n 9)) (; (f 0 (m 0 (n 3)) (p (x 0))) (p (x 0))))");
+        does("e 1", "(f 1 (, (n 1) (n 2)) (; (p (x 1)) (f 0 (B) (p (n 5)))))");
+        does("e 7", "(; (f 1 (, (n 1) (n 2)) (; (l (B) (n 1)) (? (q (x 1) (n 2)) (p (n 7)) (0)))) (0))");
+        dies(902, "(f 0 (B) (n 1))");
         dies(902, "(B)");
         dies(902, "(b (B))");
         dies(902, "(f 0 (n 1) (c 0 -1))", "(B)");
